@@ -383,11 +383,9 @@ public final class GridRipUp {
         /** What a step costs whatever cell it comes to: the same there and back. */
         int wayOf(int cell, int direction) {
             int layer = grid.layerOf(cell);
-            if (direction == LAYER_BELOW) {
-                return PLAIN_STEP + via[layer - 1];
-            }
-            if (direction == LAYER_ABOVE) {
-                return PLAIN_STEP + via[layer];
+            if (direction == LAYER_BELOW || direction == LAYER_ABOVE) {
+                int lower = direction == LAYER_BELOW ? Math.max(0, layer - 1) : layer;
+                return PLAIN_STEP + via[lower];
             }
             boolean alongJ = direction == J_BELOW || direction == J_ABOVE;
             boolean dearAlongJ = layer % 2 == 0;

@@ -140,6 +140,15 @@ public final class LeadTest {
         way("the nearest pin first", near, 0, 0, 0, 0, 2, 0, 0, 1, 0, 0, 4, 0, 0, 3, 0);
         Check.due("its COST", near.costOf(0), 8);
 
+        GridRipUp later = new GridRipUp(3, 2, 1, 0L);
+        later.net();
+        later.cost(0, 1, 0, 0);
+        later.pin(0, 0, 0, 0);
+        later.pin(0, 0, 2, 0);
+        later.pin(0, 0, 0, 1);
+        later.run(1);
+        way("the later pin is a little nearer", later, 0, 0, 0, 0, 0, 1, 0, 2, 0, 0, 1, 0);
+
         GridRipUp equal = new GridRipUp(5, 1, 1, 0L);
         equal.net();
         equal.pin(0, 0, 2, 0);

@@ -6,10 +6,12 @@ public final class RipTest {
         seededOrders();
         historyIsPaid();
         historyIsPaidInAFreeSearch();
+        freeWaysComeFirst();
         twoCellsRipOnce();
         whatIsRippedInVain();
         open();
         blocking();
+        blockingOfTheFreeSearch();
         blockingOverLayers();
         blockingChanges();
         rounds();
@@ -86,6 +88,22 @@ public final class RipTest {
         Check.due("net 1 is LED in the end", g.joined(1), true);
         Check.due("3 steps and the HISTORY", g.costOf(1), 6 + g.history(0, 1, 1));
         Check.due("net 0 is BLOCKED", g.blocking(0, 0), 1);
+    }
+
+    /** A way of 8 dear steps is free, one of 2 dear steps would rip: the free one is taken. */
+    private static void freeWaysComeFirst() {
+        GridRipUp g = new GridRipUp(3, 5, 1, 0L);
+        g.cost(0, 50, 0, 0);
+        g.net();
+        g.pin(0, 0, 1, 0);
+        g.pin(0, 0, 1, 3);
+        g.run(1);
+        g.net();
+        g.pin(1, 0, 0, 0);
+        g.pin(1, 0, 2, 0);
+        Check.due("free first: run(1)", g.run(1), 0);
+        Check.due("free first: costOf(1)", g.costOf(1), 8 * 52 + 4);
+        Check.due("free first: ripped(0)", g.ripped(0), 0);
     }
 
     /** Both nets need the same two cells. */
@@ -179,6 +197,27 @@ public final class RipTest {
         Check.due("blocking(2, max)", g.blocking(2, Integer.MAX_VALUE), NONE);
         Check.due("blocking of a LED net", g.blocking(0, 0), NONE);
         Check.due("blocking of a net without pins", g.blocking(1, 0), NONE);
+    }
+
+    /** A net whose cells only a RIPPING search comes beside does not block. */
+    private static void blockingOfTheFreeSearch() {
+        GridRipUp g = new GridRipUp(6, 3, 1, 0L);
+        for (int n = 0; n < 3; n++) {
+            g.net();
+        }
+        for (int j = 0; j < 3; j++) {
+            g.bar(0, 4, j);
+        }
+        g.pin(1, 0, 1, 0);
+        g.pin(1, 0, 1, 2);
+        g.pin(2, 0, 3, 1);
+        g.run(1);
+        g.pin(0, 0, 0, 1);
+        g.pin(0, 0, 5, 1);
+        Check.due("behind a way: run(1)", g.run(1), 1);
+        Check.due("behind a way: blocking(0, 0)", g.blocking(0, 0), 1);
+        Check.due("behind a way: blocking(0, 1)", g.blocking(0, 1), NONE);
+        Check.due("behind a way: ripped(1)", g.ripped(1), 0);
     }
 
     private static void blockingOverLayers() {
