@@ -7,6 +7,7 @@ public final class LeadTest {
         viaOfTheLowerLayer();
         nearness();
         nearnessOfTheCellsLayer();
+        nearnessOfEachCellBeside();
         costsLeadTheWay();
         orderOfPieces();
         orderAmongEqualWays();
@@ -101,6 +102,33 @@ public final class LeadTest {
         own.pin(0, 0, 2, 0);
         own.run(1);
         Check.due("its own pins are not near", own.costOf(0), 4);
+    }
+
+    /** A via to a cell with 0 to 4 cells beside it that one other net HOLDS: each counts, not the net. */
+    private static void nearnessOfEachCellBeside() {
+        int[][] beside = {{1, 0}, {0, 1}, {2, 1}, {1, 2}};
+        for (int count = 0; count <= 4; count++) {
+            GridRipUp g = new GridRipUp(3, 3, 2, 0L);
+            g.net();
+            g.net();
+            g.cost(0, 0, 50, 0);
+            g.cost(1, 0, 0, 50);
+            g.pin(0, 0, 1, 1);
+            g.pin(0, 1, 1, 1);
+            for (int b = 0; b < count; b++) {
+                g.pin(1, 1, beside[b][0], beside[b][1]);
+            }
+            barAll(g);
+            g.run(1);
+            Check.due(count + " cells beside it", g.costOf(0), 52 + 50 * count);
+        }
+    }
+
+    /** All cells of 3 by 3 by 2 but those that a net HOLDS. */
+    private static void barAll(GridRipUp g) {
+        for (int c = 0; c < 18; c++) {
+            g.bar(c / 9, c % 3, c / 3 % 3);
+        }
     }
 
     private static void costsLeadTheWay() {

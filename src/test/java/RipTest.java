@@ -6,8 +6,10 @@ public final class RipTest {
         seededOrders();
         historyIsPaid();
         historyIsPaidInAFreeSearch();
+        nearnessIsPaidInARippingSearch();
         freeWaysComeFirst();
         twoCellsRipOnce();
+        twoNetsAreRippedByOneWay();
         whatIsRippedInVain();
         open();
         blocking();
@@ -90,6 +92,14 @@ public final class RipTest {
         Check.due("net 0 is BLOCKED", g.blocking(0, 0), 1);
     }
 
+    /** The crossing lies beside two pins of the other net; the end lies beside the crossing, HELD still. */
+    private static void nearnessIsPaidInARippingSearch() {
+        GridRipUp g = crossing(0L);
+        g.cost(0, 0, 0, 50);
+        g.run(1);
+        Check.due("ripping near pins and ways: costOf", g.costOf(g.joined(0) ? 0 : 1), 104 + 3 * 50);
+    }
+
     /** A way of 8 dear steps is free, one of 2 dear steps would rip: the free one is taken. */
     private static void freeWaysComeFirst() {
         GridRipUp g = new GridRipUp(3, 5, 1, 0L);
@@ -124,6 +134,29 @@ public final class RipTest {
             Check.due("two cells: HISTORY of the other", g.history(0, 2, 1), 1);
             Check.due("two cells: HISTORY of a pin", g.history(0, 2, 2) + g.history(0, 0, 1), 0);
             Check.due("two cells: COST", g.costOf(g.joined(0) ? 0 : 1), 206);
+        }
+    }
+
+    private static void twoNetsAreRippedByOneWay() {
+        GridRipUp g = new GridRipUp(5, 3, 1, 0L);
+        for (int n = 0; n < 3; n++) {
+            g.net();
+        }
+        g.pin(0, 0, 1, 0);
+        g.pin(0, 0, 1, 2);
+        g.pin(2, 0, 3, 0);
+        g.pin(2, 0, 3, 2);
+        g.run(1);
+        g.pin(1, 0, 0, 1);
+        g.pin(1, 0, 4, 1);
+        Check.due("two nets: run(1)", g.run(1), 2);
+        Check.due("two nets: costOf(1)", g.costOf(1), 208);
+        Check.due("two nets: ripped(0)", g.ripped(0), 1);
+        Check.due("two nets: ripped(2)", g.ripped(2), 1);
+        Check.due("two nets: open(0)", g.open(0), 0);
+        Check.due("two nets: open(1)", g.open(1), 2);
+        for (int i = 0; i < 5; i++) {
+            Check.due("two nets: history of " + i, g.history(0, i, 1), i == 1 || i == 3 ? 1 : 0);
         }
     }
 
