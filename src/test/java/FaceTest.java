@@ -41,6 +41,14 @@ public final class FaceTest {
                 + (thrown.isEmpty() ? "" : " " + thrown);
     }
 
+    private static void classesInside() {
+        for (Class<?> c : GridRipUp.class.getDeclaredClasses()) {
+            int marks = c.getModifiers();
+            Check.due(c + " is not seen from outside", Modifier.isPublic(marks) || Modifier.isProtected(marks), false);
+            Check.due(c + " is static", Modifier.isStatic(marks), true);
+        }
+    }
+
     public static void main(String[] args) {
         TreeSet<String> seen = new TreeSet<>();
         TreeSet<String> publicNames = new TreeSet<>();
@@ -54,10 +62,14 @@ public final class FaceTest {
         }
         for (Constructor<?> c : GridRipUp.class.getDeclaredConstructors()) {
             seen.add("new(" + names(c.getParameterTypes()) + ")");
+            Check.due(c + " is public", Modifier.isPublic(c.getModifiers()), true);
+            Check.due(c + " throws nothing", c.getExceptionTypes().length, 0);
         }
         for (Field f : GridRipUp.class.getDeclaredFields()) {
             if (!Modifier.isPrivate(f.getModifiers())) {
                 seen.add(f.getType().getSimpleName() + " " + f.getName());
+                Check.due(f + " is public and static",
+                        Modifier.isPublic(f.getModifiers()) && Modifier.isStatic(f.getModifiers()), true);
             }
             if (Modifier.isStatic(f.getModifiers())) {
                 Check.due(f + " is final", Modifier.isFinal(f.getModifiers()), true);
@@ -73,7 +85,12 @@ public final class FaceTest {
                 Check.due(m + " has a public one's name", publicNames.contains(m.getName()), false);
             }
         }
+        Check.due("the class is public", Modifier.isPublic(GridRipUp.class.getModifiers()), true);
         Check.due("the class is final", Modifier.isFinal(GridRipUp.class.getModifiers()), true);
+        Check.due("the class extends nothing", GridRipUp.class.getSuperclass() == Object.class, true);
+        Check.due("the class implements nothing", GridRipUp.class.getInterfaces().length, 0);
+        Check.due("the class has no package", GridRipUp.class.getPackageName().isEmpty(), true);
+        classesInside();
         Check.due("NONE", GridRipUp.NONE, -1);
         Check.end();
     }

@@ -6,6 +6,7 @@ public final class RipTest {
         seededOrders();
         historyIsPaid();
         historyIsPaidInAFreeSearch();
+        historyStays();
         nearnessIsPaidInARippingSearch();
         freeWaysComeFirst();
         twoCellsRipOnce();
@@ -90,6 +91,29 @@ public final class RipTest {
         Check.due("net 1 is LED in the end", g.joined(1), true);
         Check.due("3 steps and the HISTORY", g.costOf(1), 6 + g.history(0, 1, 1));
         Check.due("net 0 is BLOCKED", g.blocking(0, 0), 1);
+    }
+
+    // Terms: HISTORY "grows by 1" behind a RIPPING search, and nothing else changes it.
+    private static void historyStays() {
+        GridRipUp g = crossing(0L);
+        g.run(5);
+        Check.due("five rips", g.history(0, 1, 1), 5);
+        int led = g.joined(0) ? 0 : 1;
+        Check.due("other costs", g.cost(0, 7, 7, 7) && g.cost(0, 0, 0, 0), true);
+        Check.due("a new net", g.net(), 2);
+        Check.due("behind costs and a net", g.history(0, 1, 1), 5);
+        Check.due("a pin on the crossing", g.pin(led, 0, 1, 1), true);
+        Check.due("behind the pin", g.history(0, 1, 1), 5);
+        Check.due("the pin keeps the other net out: run(2)", g.run(2), 1);
+        Check.due("2 steps and the HISTORY", g.costOf(led), 4 + 5);
+        Check.due("behind ROUNDS that rip nothing", g.history(0, 1, 1), 5);
+
+        GridRipUp barred = crossing(0L);
+        barred.run(3);
+        barred.pin(barred.joined(0) ? 0 : 1, 0, 0, 0);
+        Check.due("given up", barred.history(0, 1, 1), 3);
+        Check.due("bar of the crossing", barred.bar(0, 1, 1), true);
+        Check.due("behind the bar", barred.history(0, 1, 1), 3);
     }
 
     /** The crossing lies beside two pins of the other net; the end lies beside the crossing, HELD still. */

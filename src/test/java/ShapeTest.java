@@ -9,6 +9,9 @@ public final class ShapeTest {
         bandOfStraightAndOpen();
         bandOfAFork();
         bandOfCellsThatOnlyTouch();
+        bandBesideAWay();
+        bandOnEachLayer();
+        bandOfEachBend();
         wrongInputs();
         Check.end();
     }
@@ -138,6 +141,65 @@ public final class ShapeTest {
         Check.due("a stair: band", g.band(0), true);
         g.bar(0, 0, 2);
         Check.due("a stair beside a bar: band", g.band(0), false);
+    }
+
+    // Promise 16: "nor HELD by another net": by its way, too, as long as it is LED.
+    private static void bandBesideAWay() {
+        GridRipUp g = new GridRipUp(2, 3, 2, 0L);
+        g.net();
+        g.net();
+        g.pin(0, 0, 0, 0);
+        g.pin(0, 0, 1, 0);
+        g.pin(0, 0, 1, 1);
+        g.run(1);
+        g.bar(1, 0, 2);
+        g.pin(1, 0, 0, 2);
+        g.pin(1, 1, 0, 1);
+        Check.due("the other net is OPEN: band", g.band(0), true);
+        g.run(1);
+        Check.due("its way is the corner: i", g.piece(1, 2, 1), 0);
+        Check.due("its way is the corner: j", g.piece(1, 2, 2), 1);
+        Check.due("its way is the corner: band", g.band(0), false);
+        Check.due("its way bends over layers alone: band", g.band(1), true);
+        g.pin(1, 0, 1, 2);
+        Check.due("its way is given up: band", g.band(0), true);
+    }
+
+    private static void bandOnEachLayer() {
+        for (int layer = 0; layer < 4; layer++) {
+            GridRipUp g = new GridRipUp(2, 2, 4, 0L);
+            g.net();
+            g.pin(0, layer, 0, 0);
+            g.pin(0, layer, 1, 0);
+            g.pin(0, layer, 1, 1);
+            g.run(1);
+            for (int other = 0; other < 4; other++) {
+                if (other != layer) {
+                    g.bar(other, 0, 1);
+                }
+            }
+            Check.due("a bend on layer " + layer + ", others barred: band", g.band(0), true);
+            g.bar(layer, 0, 1);
+            Check.due("a bend on layer " + layer + ", its corner barred: band", g.band(0), false);
+        }
+    }
+
+    // Promise 16: "at each of its cells": a stair of five cells bends at three of them.
+    private static void bandOfEachBend() {
+        int[][] stair = {{0, 0}, {1, 0}, {1, 1}, {2, 1}, {2, 2}};
+        int[][] corners = {{0, 1}, {2, 0}, {1, 2}};
+        for (int[] corner : corners) {
+            GridRipUp g = new GridRipUp(3, 3, 1, 0L);
+            g.net();
+            for (int[] cell : stair) {
+                g.pin(0, 0, cell[0], cell[1]);
+            }
+            g.run(1);
+            g.bar(0, 0, 2);
+            Check.due("a stair of free corners: band", g.band(0), true);
+            g.bar(0, corner[0], corner[1]);
+            Check.due("its corner " + corner[0] + ", " + corner[1] + " is barred: band", g.band(0), false);
+        }
     }
 
     private static void wrongInputs() {
