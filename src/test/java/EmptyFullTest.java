@@ -391,18 +391,28 @@ public final class EmptyFullTest {
         Check.due("the next ROUND: costOf(0)", g.costOf(0), 105);
     }
 
-    // "An object is used for at most 512 calls": the 512th still answers.
+    // "An object is used for at most 512 calls": the 512th still answers, whatever has come together by then.
     private static void the512thCall() {
+        int rounds = 505 * 20;
+        Check.due("the 512th call: history", crossingFor511Calls().history(0, 1, 1), rounds);
+        Check.due("the 512th call: round", crossingFor511Calls().round(), rounds);
+        // They take turns: each is ripped in every second ROUND.
+        Check.due("the 512th call: ripped(0)", crossingFor511Calls().ripped(0), rounds / 2);
+        Check.due("the 512th call: ripped(1)", crossingFor511Calls().ripped(1), rounds / 2);
+        GridRipUp g = crossingFor511Calls();
+        int led = crossingFor511Calls().joined(0) ? 0 : 1;
+        Check.due("the 512th call: costOf", g.costOf(led), 104 + rounds - 1);
+    }
+
+    private static GridRipUp crossingFor511Calls() {
         GridRipUp g = withNets(3, 3, 1, 2);
         g.pin(0, 0, 0, 1);
         g.pin(0, 0, 2, 1);
         g.pin(1, 0, 1, 0);
         g.pin(1, 0, 1, 2);
-        int calls = 6;
-        while (calls < 511) {
+        for (int calls = 6; calls < 511; calls++) {
             Check.due("call " + calls + ": run(20)", g.run(20), 1);
-            calls++;
         }
-        Check.due("the 512th call: history", g.history(0, 1, 1), 505 * 20);
+        return g;
     }
 }

@@ -10,7 +10,7 @@ import java.util.TreeSet;
 import java.util.regex.Matcher;
 import java.util.regex.Pattern;
 
-/** The rules of LANGUAGE.md that can be seen in the program's text and in its classes. Runs in the project's directory. */
+/** The rules of LANGUAGE.md that the program's text and its classes show. Runs in the project's directory. */
 public final class LanguageTest {
     private static final Path SOURCE = Path.of("src/main/java/GridRipUp.java");
     private static final int MOST_LINES_OF_A_METHOD = 60;

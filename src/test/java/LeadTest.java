@@ -11,6 +11,7 @@ public final class LeadTest {
         costsLeadTheWay();
         orderOfPieces();
         orderAmongEqualWays();
+        piecesOfANetLedAgain();
         wrongPieces();
         run();
         joinedAndCost();
@@ -225,6 +226,22 @@ public final class LeadTest {
         up.pin(0, 0, 0, 0);
         up.run(1);
         way("j goes up before the layer", up, 1, 0, 1, 0, 0, 0, 0, 0, 1);
+    }
+
+    // Promise 7: "in the order in which they came into its tree": into the tree that it has now.
+    private static void piecesOfANetLedAgain() {
+        GridRipUp g = new GridRipUp(5, 2, 1, 0L);
+        g.net();
+        g.pin(0, 0, 0, 0);
+        g.pin(0, 0, 2, 0);
+        g.run(1);
+        way("led once", g, 0, 0, 0, 0, 2, 0, 0, 1, 0);
+        g.pin(0, 0, 4, 0);
+        g.run(1);
+        way("led twice", g, 0, 0, 0, 0, 2, 0, 0, 1, 0, 0, 4, 0, 0, 3, 0);
+        g.pin(0, 0, 0, 1);
+        g.run(1);
+        way("led three times", g, 0, 0, 0, 0, 0, 1, 0, 2, 0, 0, 1, 0, 0, 4, 0, 0, 3, 0);
     }
 
     private static void wrongPieces() {

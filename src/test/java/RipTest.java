@@ -7,6 +7,8 @@ public final class RipTest {
         historyIsPaid();
         historyIsPaidInAFreeSearch();
         historyStays();
+        historyOfEachLayer();
+        piecesBehindRips();
         nearnessIsPaidInARippingSearch();
         freeWaysComeFirst();
         twoCellsRipOnce();
@@ -114,6 +116,46 @@ public final class RipTest {
         Check.due("given up", barred.history(0, 1, 1), 3);
         Check.due("bar of the crossing", barred.bar(0, 1, 1), true);
         Check.due("behind the bar", barred.history(0, 1, 1), 3);
+    }
+
+    // Promise 10: "A cell's HISTORY": not that of the cells above and below it.
+    private static void historyOfEachLayer() {
+        for (int layer = 0; layer < 4; layer++) {
+            GridRipUp g = new GridRipUp(3, 3, 4, 0L);
+            g.net();
+            g.net();
+            g.pin(0, layer, 0, 1);
+            g.pin(0, layer, 2, 1);
+            g.pin(1, layer, 1, 0);
+            g.pin(1, layer, 1, 2);
+            for (int c = 0; c < 36; c++) {
+                if (c / 9 != layer) {
+                    g.bar(c / 9, c % 3, c / 3 % 3);
+                }
+            }
+            g.run(4);
+            for (int c = 0; c < 36; c++) {
+                int want = c == layer * 9 + 4 ? 4 : 0;
+                Check.due("on layer " + layer + ": history of " + c, g.history(c / 9, c % 3, c / 3 % 3), want);
+            }
+        }
+    }
+
+    /** The nets take turns: the one that is LED has the pieces of its last way, the other has none. */
+    private static void piecesBehindRips() {
+        GridRipUp g = crossing(0L);
+        for (int r = 0; r < 6; r++) {
+            g.run(1);
+            int led = g.joined(0) ? 0 : 1;
+            int[] iOfPieces = led == 0 ? new int[] {0, 2, 1} : new int[] {1, 1, 1};
+            int[] jOfPieces = led == 0 ? new int[] {1, 1, 1} : new int[] {0, 2, 1};
+            for (int k = 0; k < 3; k++) {
+                Check.due("turn " + r + ": i of piece " + k, g.piece(led, k, 1), iOfPieces[k]);
+                Check.due("turn " + r + ": j of piece " + k, g.piece(led, k, 2), jOfPieces[k]);
+            }
+            Check.noSuch("turn " + r + ": a fourth piece", () -> g.piece(led, 3, 0));
+            Check.noSuch("turn " + r + ": a piece of the ripped one", () -> g.piece(1 - led, 0, 0));
+        }
     }
 
     /** The crossing lies beside two pins of the other net; the end lies beside the crossing, HELD still. */

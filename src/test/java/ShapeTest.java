@@ -72,6 +72,7 @@ public final class ShapeTest {
         Check.due("bar above the corner: band", barred.band(0), true);
         barred.bar(0, 0, 1);
         Check.due("barred corner: band", barred.band(0), false);
+        Check.due("barred corner: it is LED still", barred.joined(0), true);
 
         GridRipUp held = bend();
         held.run(1);
