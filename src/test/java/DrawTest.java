@@ -19,6 +19,7 @@ public final class DrawTest {
             ordersOf(seed, 12, 5);
         }
         theSeedsReachTheEdges();
+        theSeedIsTheFirstOfEachGrid();
         oneOpenNetDrawsNothing();
         Check.end();
     }
@@ -135,6 +136,48 @@ public final class DrawTest {
         }
         Check.due("0 is drawn by some seed", least, true);
         Check.due("2147483647 is drawn by some seed", greatest, true);
+    }
+
+    /** Two nets that can only cross in one cell near the corner of a grid of any sides. */
+    private static GridRipUp crossing(int x, int y, int layers, long seed) {
+        GridRipUp g = new GridRipUp(x, y, layers, seed);
+        int[][] pins = {{0, 1}, {2, 1}, {1, 0}, {1, 2}};
+        int[][] corners = {{0, 0}, {2, 0}, {0, 2}, {2, 2}, {3, 1}, {1, 3}};
+        g.net();
+        g.net();
+        for (int p = 0; p < 4; p++) {
+            g.pin(p / 2, 0, pins[p][0], pins[p][1]);
+            if (layers > 1) {
+                g.bar(1, pins[p][0], pins[p][1]);
+            }
+        }
+        for (int[] corner : corners) {
+            if (corner[0] < x && corner[1] < y) {
+                g.bar(0, corner[0], corner[1]);
+            }
+        }
+        if (layers > 1) {
+            g.bar(1, 1, 1);
+        }
+        return g;
+    }
+
+    // Terms: "s, at first the seed": whatever the grid's sides are.
+    private static void theSeedIsTheFirstOfEachGrid() {
+        long[] some = {0, 1, -1, 77, Long.MIN_VALUE, 1L << 33};
+        for (int sides = 0; sides < 14 * 14 * 4; sides++) {
+            int x = 3 + sides % 14;
+            int y = 3 + sides / 14 % 14;
+            int layers = 1 + sides / 196;
+            for (long seed : some) {
+                int later = new Draws(seed).order(2).get(1);
+                String name = "seed " + seed + " on " + x + ", " + y + ", " + layers;
+                GridRipUp g = crossing(x, y, layers, seed);
+                Check.due(name + ": run(1)", g.run(1), 1);
+                Check.due(name + ": the later one is LED", g.joined(later), true);
+                Check.due(name + ": the other was ripped", g.ripped(1 - later), 1);
+            }
+        }
     }
 
     // Terms: "for k from their number less 1 down to 1": a single one is not drawn for, however many ROUNDS.
